@@ -37,6 +37,7 @@ public final class PromiseTests {
         tests.promise24And25SeenAndForget();
         tests.promise26Least();
         tests.promise27Count();
+        tests.eightLeaves();
         tests.check.end();
     }
 
@@ -106,7 +107,9 @@ public final class PromiseTests {
         check.faultAt("empty", NONE);
         check.faultAt("  empty  ;  empty  ", NONE);
         check.faultAt("Empty", 0);
-        check.faultAt("emptyx", 0);
+        check.faultAt("emptya", 0);
+        check.faultAt("emptyz", 0);
+        check.faultAt("nouse 3", 0);
         check.faultAt("empt", 0);
         check.faultAt("empty empty", 6);
         check.faultAt("empty 1", 6);
@@ -148,6 +151,8 @@ public final class PromiseTests {
         check.faultAt("leaf 3 71", NONE);
         check.faultAt("leaf 3 72", 7);
         check.faultAt("leaf 3 0", 7);
+        check.faultAt("leaf 0 5;leaf 3 72", 16);
+        check.faultAt("leaf 0 5;leaf 3 0", NONE);
         check.faultAt("leaf 3 36", 7);
         check.faultAt("leaf 3 37", NONE);
         check.faultAt("leaf 0 17", NONE);
@@ -492,6 +497,10 @@ public final class PromiseTests {
         due("best(0, 3)", x.best(0, 3), OUTSIDE);
         due("best(0, -1)", x.best(0, -1), OUTSIDE);
         OneHinge y = check.told("door 18;door 36");
+        OneHinge w = check.told("door 36");
+        due("by the second leaf", w.best(1, 1), 2);
+        due("its side", w.best(1, 2), 0);
+        due("its steps", w.best(1, 0), 1);
         due("of several leaves the least", y.best(1, 1), 1);
         due("its side", y.best(1, 2), 1);
         due("its steps", y.best(1, 0), 1);
@@ -557,9 +566,9 @@ public final class PromiseTests {
         due("it is the first", x.errands(2, 1, 0), 1);
         due("no second", x.errands(2, 1, 1), NONE);
         due("no such one", x.errands(2, 1, Integer.MAX_VALUE), NONE);
-        due("1 first, then 0", x.errands(3, 1, NONE), 3);
-        due("the first", x.errands(3, 1, 0), 0);
-        due("the second", x.errands(3, 1, 1), 1);
+        due("of like orders", x.errands(3, 1, NONE), 3);
+        due("the first one's first", x.errands(3, 1, 0), 0);
+        due("the first one's second", x.errands(3, 1, 1), 1);
         due("nothing moved", x.leaf(1, 1), 18);
         due("errands(16, 0, -2)", x.errands(16, 0, -2), UNKNOWN);
         due("errands(-1, 0, 0)", x.errands(-1, 0, 0), UNKNOWN);
@@ -574,6 +583,29 @@ public final class PromiseTests {
         OneHinge z = check.told("fixed 1;door 5");
         due("one of them has no way", z.errands(7, 0, NONE), NONE);
         due("nor a first", z.errands(7, 0, 0), NONE);
+        promise21ErrandsInOrder();
+    }
+
+    private void errands(OneHinge x, int leaf, int steps, int... order) {
+        int rooms = 0;
+        for (int room : order) {
+            rooms |= 1 << room;
+        }
+        due("errands: steps", x.errands(rooms, leaf, NONE), steps);
+        for (int i = 0; i < order.length; i++) {
+            due("errands: room " + i, x.errands(rooms, leaf, i), order[i]);
+        }
+        due("errands: no more", x.errands(rooms, leaf, order.length), NONE);
+    }
+
+    private void promise21ErrandsInOrder() {
+        errands(check.told("door 17"), 1, 2, 0, 1);
+        errands(check.told("door 19"), 1, 2, 1, 0);
+        // Room 0 is 3 steps away on and back: only on leaves room 3 open.
+        errands(check.told("put 0 17;door 20;door 70"), 0, 3, 0, 3);
+        // 10 steps back open room 1, and room 0 stands open there; room 2 does so only ahead of them.
+        errands(check.told("house 3;leaf 0 3;leaf 2 45;put 0 20;put 1 20;put 2 20;door 0;door 24;door 70"), 0, 10, 2, 1, 0);
+        errands(check.told("house 3;leaf 1 1;leaf 2 3;put 1 1;door 1"), 0, 71, 2, 1);
     }
 
     private void promise22Slam() {
@@ -619,6 +651,8 @@ public final class PromiseTests {
         due("a fixed leaf stands", w.fire(1, ON), NONE);
         // A room of two steps that goes round with all others has the door between its leaves once in 72 minutes.
         String round = "house 3;leaf 1 1;leaf 2 3;put 1 1;person 1;person 1;person 1;door ";
+        due("one in an open room", check.told("door 1;person 0").fire(0, ON), 1);
+        due("one in a room that opens", check.told("door 18;person 0").fire(1, ON), 2);
         due("in 200", check.told(round + 57).fire(0, ON), 200);
         due("in 201", check.told(round + 58).fire(0, ON), NONE);
     }
@@ -674,5 +708,31 @@ public final class PromiseTests {
         }
         due("count(8)", x.count(8), OUTSIDE);
         due("count(-1)", x.count(-1), OUTSIDE);
+    }
+
+    /** As many as there can be of all: no call may go beyond its rows. */
+    private void eightLeaves() {
+        OneHinge x = check.told("house 8;put 7 8;sprung 7;door 4;door 40;door 67"
+                + ";person 7;person 7;person 7;person 7;person 7");
+        due("eight: fault()", x.fault(), 0);
+        due("eight: count(4)", x.count(4), 1 + 16 + 128);
+        due("eight: room(7, 3)", x.room(7, 3), 31);
+        due("eight: as(7, 2)", x.as(7, 2), 3);
+        due("eight: best(6, 0)", x.best(6, 0), 5);
+        due("eight: best(6, 1)", x.best(6, 1), 7);
+        due("eight: further(0)", x.further(0), 0);
+        due("eight: widest(7)", x.widest(7), 65);
+        due("eight: slam(7, 0, 1)", x.slam(7, ON, 1), 0);
+        due("eight: fire(7, 1)", x.fire(7, BACK), 5);
+        due("eight: errands(193, 7, -1)", x.errands(193, 7, NONE), 5);
+        due("eight: push(7, 0, 72)", x.push(7, ON, 72), 72);
+        due("eight: hours(99)", x.hours(99), 99);
+        due("eight: leaf(7, 1)", x.leaf(7, 1), 63);
+        due("eight: seen(7, 71)", x.seen(7, 71), 1);
+        due("eight: least(7)", x.least(7), 16);
+        due("eight: keep(1)", x.keep(1), 99);
+        due("eight: leave(4)", x.leave(4), 7);
+        due("eight: back(1)", x.back(1), 99);
+        due("eight: person(4)", x.person(4), 7);
     }
 }
