@@ -229,7 +229,12 @@ public final class PromiseTests {
         due("it is hour 0", x.count(3), 0);
         due("nothing is seen", x.count(6), 0);
         due("nothing is kept", x.back(0), NOT);
+        check.tell(x, "leaf 0 3;fixed 0;put 0 2");
+        due("leaf(0, 0)", x.leaf(0, 0), 3);
         check.tell(x, "house 7");
+        due("house N: its first leaf", x.leaf(0, 1), 0);
+        due("its first kind", x.leaf(0, 0), 0);
+        due("its first furniture", x.room(0, 1), 0);
         due("house N: as at first", x.leaf(6, 1), 61);
         due("its kinds", x.leaf(2, 0), 0);
         due("its furniture", x.room(3, 1), 0);
@@ -606,6 +611,9 @@ public final class PromiseTests {
         // 10 steps back open room 1, and room 0 stands open there; room 2 does so only ahead of them.
         errands(check.told("house 3;leaf 0 3;leaf 2 45;put 0 20;put 1 20;put 2 20;door 0;door 24;door 70"), 0, 10, 2, 1, 0);
         errands(check.told("house 3;leaf 1 1;leaf 2 3;put 1 1;door 1"), 0, 71, 2, 1);
+        // Four rooms of two steps go together past one door, the fifth leaves it behind.
+        errands(check.told("house 5;leaf 1 2;leaf 2 4;leaf 3 6;leaf 4 8;put 0 1;put 1 1;put 2 1;put 3 1;door 10"),
+                0, 9, 4, 3, 2, 1, 0);
     }
 
     private void promise22Slam() {
