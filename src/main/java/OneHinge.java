@@ -499,10 +499,11 @@ public final class OneHinge {
                 if (start == length) {
                     return NONE;
                 }
-                if (bytes[start] != ';' || lines == MOST_LINES) {
+                if (bytes[start] != ';') {
                     return start;
                 }
             }
+            // The ; behind the last line that there may be cannot stand.
             return start;
         }
 
