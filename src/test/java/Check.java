@@ -4,12 +4,18 @@ import java.nio.charset.StandardCharsets;
 final class Check {
     private int asked = 0;
     private int wrong = 0;
+    private String sentence = "";
+
+    /** The document's words that the next answers are held against: told with each wrong one. */
+    void sentence(String words) {
+        sentence = "[" + words + "] ";
+    }
 
     void due(String call, long got, long want) {
         asked++;
         if (got != want) {
             wrong++;
-            System.out.println(call + " answered " + got + ", due is " + want);
+            System.out.println(sentence + call + " answered " + got + ", due is " + want);
         }
     }
 
